@@ -32,6 +32,9 @@ public final class ShiftMender {
     // The properties of an entry of the ledger, by the numbers that ledger() gives them.
     private static final int SHIFT = 2, COLUMNS = 3;
 
+    // The parts of a change. Its place is a station or the number of a parameter, its number what was there
+    // before, or the size of a mending.
+    private static final int KIND = 0, PLACE = 1, WHEN = 2, NUMBER = 3, PARTS = 4;
     private static final int NEW_VALUE = 0, NEW_PENALTY = 1, NEW_RULE = 2, MENDING = 3;
 
     private static final String FIRST_STATIONS =
@@ -162,25 +165,28 @@ public final class ShiftMender {
     }
 
     public int undo() {
-        Change latest = history.takeLatest();
-        if (latest == null) {
+        if (history.length() == 0) {
             return NO;
         }
-        switch (latest.kind) {
+        int place = history.latest(PLACE);
+        int year = history.latest(WHEN);
+        int number = history.latest(NUMBER);
+        switch (history.latest(KIND)) {
             case NEW_VALUE:
-                records.put(latest.place, latest.year, latest.number);
+                records.put(place, year, number);
                 break;
             case NEW_PENALTY:
-                records.setBreakPenalty(latest.number);
+                records.setBreakPenalty(number);
                 break;
             case NEW_RULE:
-                records.setRule(latest.place, latest.number);
+                records.setRule(place, number);
                 break;
             default:
-                records.shiftEarlier(latest.place, latest.year, -latest.number);
+                records.shiftEarlier(place, year, -number);
                 ledger.dropLast();
                 break;
         }
+        history.dropLatest();
         return history.length();
     }
 
@@ -1114,27 +1120,11 @@ public final class ShiftMender {
         }
     }
 
-    /** A change as it can be undone; the place is a station, or the number of a parameter. */
-    private static final class Change {
-        private int kind;
-        private int place;
-        private int year;
-
-        // What was there before, or the size of a mending.
-        private int number;
-    }
-
     /** The latest changes; the oldest one gives way when there are too many. */
     private static final class History {
-        private final Change[] changes = new Change[MOST_CHANGES];
+        private final int[][] parts = new int[PARTS][MOST_CHANGES];
         private int oldest;
         private int length;
-
-        History() {
-            for (int i = 0; i < MOST_CHANGES; i++) {
-                changes[i] = new Change();
-            }
-        }
 
         void clear() {
             length = 0;
@@ -1145,25 +1135,31 @@ public final class ShiftMender {
         }
 
         void add(int kind, int place, int year, int number) {
-            Change change = changes[(oldest + length) % MOST_CHANGES];
-            change.kind = kind;
-            change.place = place;
-            change.year = year;
-            change.number = number;
+            int slot = slot(length);
+            parts[KIND][slot] = kind;
+            parts[PLACE][slot] = place;
+            parts[WHEN][slot] = year;
+            parts[NUMBER][slot] = number;
             if (length < MOST_CHANGES) {
                 length++;
             } else {
-                oldest = (oldest + 1) % MOST_CHANGES;
+                oldest = slot(1);
             }
         }
 
-        /** The latest change, which is no longer kept then, or null if there is none. */
-        Change takeLatest() {
-            if (length == 0) {
-                return null;
+        private int slot(int place) {
+            return (oldest + place) % MOST_CHANGES;
+        }
+
+        /** A part of the latest change; 0 if there is none. */
+        int latest(int part) {
+            return length == 0 ? 0 : parts[part][slot(length - 1)];
+        }
+
+        void dropLatest() {
+            if (length > 0) {
+                length--;
             }
-            length--;
-            return changes[(oldest + length) % MOST_CHANGES];
         }
     }
 
