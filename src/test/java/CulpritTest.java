@@ -9,6 +9,8 @@ public final class CulpritTest {
         equalVotes();
         votesWanted();
         windows();
+        allPairsInAllYears();
+        nothingOldIsLeft();
         roundedSizes();
         sizeOfSeveralPairs();
         wrongCulprits();
@@ -161,6 +163,63 @@ public final class CulpritTest {
                     oracle.answer("culprit", new int[] {i, what}));
             }
         }
+    }
+
+    /** The values are station times year: each of the 15 series has a break in each of the years 1 to 15. */
+    private static void allPairsInAllYears() {
+        StringBuilder text = new StringBuilder("yg;");
+        for (int c = 0; c < 6; c++) {
+            text.append("s00................;");
+        }
+        ShiftMender m = Laid.of(text.append("l1510;p00;").toString());
+        for (int c = 0; c < 6; c++) {
+            for (int t = 0; t < 16; t++) {
+                m.set(c, t, c * t);
+            }
+        }
+        for (int c = 0; c < 6; c++) {
+            for (int t = 0; t < 16; t++) {
+                CHECK.due("all: votes(" + c + ", " + t + ")", m.votes(c, t), t == 0 ? 0 : 5);
+            }
+        }
+        // of c and v the series falls by v - c each year; these are the means for c and all v that are greater
+        int[] sizes = {-3, -2, -2, -1, -1};
+        for (int w = 0; w <= 2; w++) {
+            m.rule(3, w);
+            int inAll = (15 + w) / (w + 1);
+            culprits("all, W = " + w, m, 5 * inAll);
+            for (int i = 0; i < 5 * inAll; i++) {
+                int c = i / inAll;
+                culprit("all, W = " + w, m, i, c, 1 + i % inAll * (w + 1), 5 - c, sizes[c]);
+            }
+        }
+    }
+
+    /** What was no vote any more, or is no break any more, does not come back after a change. */
+    private static void nothingOldIsLeft() {
+        ShiftMender m = Laid.of("y6;s00000000;s00000999;s00000444;l2530;p05;");
+        culprits("T = 3", m, 0);
+        for (int t = 0; t < 6; t++) {
+            m.lose(0, t);
+        }
+        m.rule(2, 1);
+        culprits("T = 1", m, 1);
+        culprit("T = 1", m, 0, 1, 3, 1, 5);
+        for (int i = 0; i < 7; i++) {
+            m.undo();
+        }
+        culprits("undone, T = 3", m, 0);
+        m.rule(2, 2);
+        culprits("undone, T = 2", m, 1);
+        culprit("undone, T = 2", m, 0, 0, 3, 2, -6);
+        m.wipe();
+        Laid.write(m, "y4;s00....;s001199;s001111;l2320;p05;");
+        m.lay();
+        culprits("laid anew", m, 0);
+        CHECK.due("votes(0, 3)", m.votes(0, 3), 0);
+        m.rule(2, 1);
+        culprits("laid anew, T = 1", m, 1);
+        culprit("laid anew, T = 1", m, 0, 1, 2, 1, 8);
     }
 
     private static void size(int due, int... values) {

@@ -12,6 +12,7 @@ public final class SegmentTest {
         emptySeries();
         costs();
         spreadsWithBreaks();
+        spreadsOfSixteenYears();
         breaksWithPenalties();
         leastPenalties();
         greatestPenalties();
@@ -143,6 +144,9 @@ public final class SegmentTest {
         // what a full series left behind must not be seen in an empty one
         ShiftMender m = Laid.of("y4;s000099;s000000;s00....;p01;");
         split("full", m, 2);
+        CHECK.due("spreads of the full one", m.spreads(0, 1, 0), 81 * ONE);
+        CHECK.due("spreads of the empty one", m.spreads(0, 2, 0), 0);
+        CHECK.due("cost of the full one", m.cost(0, 1), ONE);
         CHECK.due("cost of the empty one", m.cost(0, 2), 0);
         CHECK.due("breaks of the empty one", m.split(0, 2, -1), 0);
         CHECK.due("votes of the empty one", m.votes(2, 2), 0);
@@ -184,6 +188,28 @@ public final class SegmentTest {
         ShiftMender worse = Laid.series(2, 7, 0, 0, 0, 9, 9, 9);
         CHECK.due("worse: k = 1", worse.spreads(0, 1, 1), 0);
         CHECK.due("worse: k = 2", worse.spreads(0, 1, 2), 81 * ONE / 2);
+    }
+
+    private static void spreadsOfSixteenYears() {
+        for (int r = 1; r <= 4; r++) {
+            ShiftMender m = Laid.series(r, 7, 3, 1, 4, 1, 5, 9, 2, 6, 5, 3, 5, 8, 9, 7, 9, 3);
+            for (int k = 0; k <= 17; k++) {
+                long due = (k + 1) * r > 16 ? -4 : leastSum(m, 0, k + 1, r);
+                CHECK.due("R = " + r + ": spreads(0, 1, " + k + ")", m.spreads(0, 1, k), due);
+            }
+        }
+    }
+
+    /** Over all ways to divide the sixteen entries from this one on into so many runs. */
+    private static long leastSum(ShiftMender m, int from, int runs, int r) {
+        if (runs == 1) {
+            return m.spread(0, 1, from, 15);
+        }
+        long least = Long.MAX_VALUE;
+        for (int next = from + r; next + (runs - 1) * r <= 16; next++) {
+            least = Math.min(least, m.spread(0, 1, from, next - 1) + leastSum(m, next, runs - 1, r));
+        }
+        return least;
     }
 
     private static void breaksWithPenalties() {
