@@ -120,7 +120,7 @@ public final class ModelTest {
             }
         }
         int faults = below(4) == 0 ? 1 + below(2) : 0;
-        for (int i = 0; i < faults; i++) {
+        for (int i = 0; i < faults && text.length() > 0; i++) {
             spoil(text);
         }
         return text.toString();
