@@ -11,6 +11,8 @@ public final class CulpritTest {
         windows();
         allPairsInAllYears();
         nothingOldIsLeft();
+        twoChangesAtOnce();
+        mendingAndAnotherChange();
         roundedSizes();
         sizeOfSeveralPairs();
         wrongCulprits();
@@ -220,6 +222,58 @@ public final class CulpritTest {
         m.rule(2, 1);
         culprits("laid anew, T = 1", m, 1);
         culprit("laid anew, T = 1", m, 0, 1, 2, 1, 8);
+    }
+
+    /** Two changes with no question between them, some of which take away all culprits, and then both undone. */
+    private static void twoChangesAtOnce() {
+        for (int first = 0; first < 5; first++) {
+            for (int second = 0; second < 5; second++) {
+                if (first != second) {
+                    ShiftMender m = new ShiftMender();
+                    culprits("before", m, 2);
+                    int due = Math.min(change(m, first), change(m, second));
+                    String both = "changes " + first + " and " + second;
+                    CHECK.due(both, m.culprit(-1, 0), due);
+                    CHECK.due(both + ": votes", m.votes(1, 9), first == 1 || second == 1 ? 0 : 4);
+                    m.undo();
+                    m.undo();
+                    culprits(both + ", undone", m, 2);
+                }
+            }
+        }
+    }
+
+    private static void mendingAndAnotherChange() {
+        for (int kind : new int[] {0, 3, 4}) {
+            ShiftMender m = new ShiftMender();
+            CHECK.due("mend(0)", m.mend(0), 1);
+            change(m, kind);
+            culprits("mended, and change " + kind, m, 1);
+            m.undo();
+            m.undo();
+            culprits("mended, and change " + kind + ", undone", m, 2);
+        }
+    }
+
+    /** Makes a change of a kind; answers how many culprits there are then at most. */
+    private static int change(ShiftMender m, int kind) {
+        switch (kind) {
+            case 0:
+                m.set(4, 0, 3);
+                return 2;
+            case 1:
+                m.penalty(99999);
+                return 0;
+            case 2:
+                m.rule(2, 5);
+                return 0;
+            case 3:
+                m.lose(4, 0);
+                return 2;
+            default:
+                m.make(2, 3);
+                return 2;
+        }
     }
 
     private static void size(int due, int... values) {
