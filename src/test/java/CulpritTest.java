@@ -169,30 +169,25 @@ public final class CulpritTest {
 
     /** The values are station times year: each of the 15 series has a break in each of the years 1 to 15. */
     private static void allPairsInAllYears() {
-        StringBuilder text = new StringBuilder("yg;");
-        for (int c = 0; c < 6; c++) {
-            text.append("s00................;");
-        }
-        ShiftMender m = Laid.of(text.append("l1510;p00;").toString());
-        for (int c = 0; c < 6; c++) {
-            for (int t = 0; t < 16; t++) {
-                m.set(c, t, c * t);
-            }
-        }
-        for (int c = 0; c < 6; c++) {
-            for (int t = 0; t < 16; t++) {
-                CHECK.due("all: votes(" + c + ", " + t + ")", m.votes(c, t), t == 0 ? 0 : 5);
-            }
-        }
         // of c and v the series falls by v - c each year; these are the means for c and all v that are greater
         int[] sizes = {-3, -2, -2, -1, -1};
         for (int w = 0; w <= 2; w++) {
-            m.rule(3, w);
+            ShiftMender m = Laid.of("yg;" + "s00................;".repeat(6) + "l151" + w + ";p00;");
+            for (int c = 0; c < 6; c++) {
+                for (int t = 0; t < 16; t++) {
+                    m.set(c, t, c * t);
+                }
+            }
             int inAll = (15 + w) / (w + 1);
-            culprits("all, W = " + w, m, 5 * inAll);
-            for (int i = 0; i < 5 * inAll; i++) {
+            CHECK.due("all, W = " + w + ": culprits", m.culprit(-1, 0), 5 * inAll);
+            CHECK.due("all, W = " + w + ": behind the last one", m.culprit(5 * inAll, 0), -4);
+            for (int i = w; i < 5 * inAll; i += 2) {
                 int c = i / inAll;
                 culprit("all, W = " + w, m, i, c, 1 + i % inAll * (w + 1), 5 - c, sizes[c]);
+            }
+            for (int t = 0; t < 16; t++) {
+                CHECK.due("all: votes(" + 2 * w + ", " + t + ")", m.votes(2 * w, t), t == 0 ? 0 : 5);
+                CHECK.due("all: votes(" + (2 * w + 1) + ", " + t + ")", m.votes(2 * w + 1, t), t == 0 ? 0 : 5);
             }
         }
     }

@@ -13,7 +13,11 @@ public final class ModelTest {
         "ledger 2", "made 2", "made 2", "make 2", "make 2", "rise 1", "count 1",
     };
 
+    // An object is used for so many calls; what later ones answer is free.
+    private static final int MOST_CALLS = 512;
+
     private static long seed = 1;
+    private static int used = 0;
 
     public static void main(String[] args) throws ReflectiveOperationException {
         for (int run = 0; run < 400 && CHECK.wrong() == 0; run++) {
@@ -31,6 +35,7 @@ public final class ModelTest {
         ShiftMender mender = new ShiftMender();
         Oracle oracle = new Oracle();
         StringBuilder log = new StringBuilder("run " + run + ":");
+        used = 0;
         int style = below(4);
         if (style != 0) {
             layRandomText(mender, oracle, log);
@@ -48,6 +53,10 @@ public final class ModelTest {
 
     private static void ask(ShiftMender mender, Oracle oracle, StringBuilder log, String name, int... a)
             throws ReflectiveOperationException {
+        if (used == MOST_CALLS) {
+            return;
+        }
+        used++;
         log.append(' ').append(name).append(java.util.Arrays.toString(a));
         Class<?>[] types = new Class<?>[a.length];
         Object[] values = new Object[a.length];
@@ -69,8 +78,8 @@ public final class ModelTest {
         for (int what = 0; what <= 10; what++) {
             ask(mender, oracle, log, "count", what);
         }
-        int stations = mender.count(0);
-        int years = mender.count(1);
+        int stations = (int) oracle.answer("count", new int[] {0});
+        int years = (int) oracle.answer("count", new int[] {1});
         for (int c = 0; c < stations; c++) {
             ask(mender, oracle, log, "rise", c);
             for (int t = 0; t < years; t++) {

@@ -62,9 +62,22 @@ public final class SegmentTest {
         split("both ends free", ends, earliestOf(ends));
     }
 
+    /** The spreads of the entries from one index to another one, each asked once. */
+    private static long[][] spreadsOf(ShiftMender m) {
+        int n = m.entry(0, 1, -1);
+        long[][] spreads = new long[n][n];
+        for (int i = 0; i < n; i++) {
+            for (int j = i; j < n; j++) {
+                spreads[i][j] = m.spread(0, 1, i, j);
+            }
+        }
+        return spreads;
+    }
+
     /** The breaks of all segmentations, compared one by one; for runs of two and a penalty of 5. */
     private static int[] earliestOf(ShiftMender m) {
-        int n = m.entry(0, 1, -1);
+        long[][] spreads = spreadsOf(m);
+        int n = spreads.length;
         long least = Long.MAX_VALUE;
         String best = null;
         for (int mask = 0; mask < 1 << n; mask += 2) {
@@ -75,7 +88,7 @@ public final class SegmentTest {
             for (int i = 1; i <= n; i++) {
                 if (i == n || (mask >> i & 1) == 1) {
                     fine &= i - from >= 2;
-                    cost += m.spread(0, 1, from, i - 1) + (i == n ? 0 : 5 * ONE);
+                    cost += spreads[from][i - 1] + (i == n ? 0 : 5 * ONE);
                     breaks.append(i == n ? "" : i + " ");
                     from = i;
                 }
@@ -193,21 +206,22 @@ public final class SegmentTest {
     private static void spreadsOfSixteenYears() {
         for (int r = 1; r <= 4; r++) {
             ShiftMender m = Laid.series(r, 7, 3, 1, 4, 1, 5, 9, 2, 6, 5, 3, 5, 8, 9, 7, 9, 3);
+            long[][] spreads = spreadsOf(m);
             for (int k = 0; k <= 17; k++) {
-                long due = (k + 1) * r > 16 ? -4 : leastSum(m, 0, k + 1, r);
+                long due = (k + 1) * r > 16 ? -4 : leastSum(spreads, 0, k + 1, r);
                 CHECK.due("R = " + r + ": spreads(0, 1, " + k + ")", m.spreads(0, 1, k), due);
             }
         }
     }
 
     /** Over all ways to divide the sixteen entries from this one on into so many runs. */
-    private static long leastSum(ShiftMender m, int from, int runs, int r) {
+    private static long leastSum(long[][] spreads, int from, int runs, int r) {
         if (runs == 1) {
-            return m.spread(0, 1, from, 15);
+            return spreads[from][15];
         }
         long least = Long.MAX_VALUE;
         for (int next = from + r; next + (runs - 1) * r <= 16; next++) {
-            least = Math.min(least, m.spread(0, 1, from, next - 1) + leastSum(m, next, runs - 1, r));
+            least = Math.min(least, spreads[from][next - 1] + leastSum(spreads, next, runs - 1, r));
         }
         return least;
     }

@@ -235,7 +235,7 @@ public final class TextTest {
         Laid.write(m, text.substring(0, 196) + "s00123");
         CHECK.due("an item cut at 200 signs", m.fault(), 196);
         for (String item : new String[] {"y", "s", "p", "l", "x"}) {
-            m.wipe();
+            m = new ShiftMender();
             Laid.write(m, "y6;" + "s00012345;".repeat(6) + "p10;".repeat(34) + item);
             CHECK.due("an item that begins with the last sign", m.count(10), 200);
             CHECK.due("its fault", m.fault(), 199);
