@@ -542,11 +542,15 @@ final class CulpritSentences {
                 check.due("to 9999 times " + sign, shift(0, 9999 * sign).mend(0), 1);
                 check.due("from one end to the other", shift(-9999 * sign, 9999 * sign).mend(0), 1);
                 // the size is 5 (or -5), and one of the values before is 9995 (or -9995)
-                refused.due("one too far", -2, m -> m.mend(0), () -> raised(9995 * sign, 5 * sign));
-                check.due("just as far", raised(9994 * sign, 5 * sign).mend(0), 1);
-                check.due("value(0, 1)", mendedOnce(raised(9994 * sign, 5 * sign)).value(0, 1), 100000 + 9999 * sign);
+                for (int year = 0; year < 2; year++) {
+                    int t = year;
+                    refused.due("one too far", -2, m -> m.mend(0), () -> raised(t, 9995 * sign, 5 * sign));
+                    ShiftMender just = raised(t, 9994 * sign, 5 * sign);
+                    check.due("just as far", just.mend(0), 1);
+                    check.due("value(0, " + t + ")", just.value(0, t), 100000 + 9999 * sign);
+                }
                 // what is missing, or not before the year, does not matter
-                ShiftMender missing = raised(9995 * sign, 5 * sign);
+                ShiftMender missing = raised(1, 9995 * sign, 5 * sign);
                 missing.lose(0, 1);
                 missing.rule(0, 1);
                 check.due("missing", missing.mend(0), 1);
@@ -566,11 +570,11 @@ final class CulpritSentences {
         return m;
     }
 
-    /** Both stations have this value in year 1; station 0 shifts by the size in year 2. */
-    private static ShiftMender raised(int value, int size) {
+    /** Both stations have this value in a year before year 2; station 0 shifts by the size in year 2. */
+    private static ShiftMender raised(int year, int value, int size) {
         ShiftMender m = shift(0, size);
-        m.set(0, 1, value);
-        m.set(1, 1, value);
+        m.set(0, year, value);
+        m.set(1, year, value);
         return m;
     }
 
@@ -603,7 +607,7 @@ final class CulpritSentences {
         s.test("the first one cannot be mended", () -> {
             refused.due("mends(): FULL", 0, ShiftMender::mends, CulpritSentences::fullLedger);
             refused.due("mends(): a size of 0", 0, ShiftMender::mends, CulpritSentences::sizeZero);
-            refused.due("mends(): out of range", 0, ShiftMender::mends, () -> raised(9995, 5));
+            refused.due("mends(): out of range", 0, ShiftMender::mends, () -> raised(0, 9995, 5));
             // the second one could be mended
             ShiftMender m = sizeZero();
             m.rule(2, 1);

@@ -29,7 +29,8 @@ public final class FaceTest {
 
     // Words and signs that the rules leave out, wherever they would stand.
     private static final String[] LEFT_OUT = {
-        "\\bthrow\\b", "\\bthrows\\b", "\\btry\\b", "\\bcatch\\b", "\\bfinally\\b", "\\bassert\\b", "\\bsynchronized\\b",
+        "\\bthrow\\b", "\\bthrows\\b", "\\btry\\b", "\\bcatch\\b", "\\bfinally\\b", "\\bassert\\b",
+        "\\bsynchronized\\b",
         "\\bimport\\b", "\\bpackage\\b", "\\bprotected\\b", "\\bvolatile\\b", "\\bnative\\b", "\\bvar\\b", "->", "::",
         "\\bSystem\\.(?!arraycopy)", "\\bThread\\b", "\\bObject\\b", "\\w+Exact\\b", "@", "\\bstatic\\s*\\{",
         "\\bhashCode\\b", "\\btoString\\b", "\\bequals\\b", "\\binstanceof\\b",
@@ -55,6 +56,14 @@ public final class FaceTest {
                 CHECK.holds(m + " is public and nothing else", m.getModifiers() == Modifier.PUBLIC);
                 CHECK.holds(m + " takes ints", Arrays.stream(m.getParameterTypes()).allMatch(t -> t == int.class));
                 CHECK.due("exceptions of " + m, m.getExceptionTypes().length, 0);
+            }
+        }
+        for (Class<?> c : ShiftMender.class.getDeclaredClasses()) {
+            for (Method m : c.getDeclaredMethods()) {
+                if (Modifier.isPrivate(m.getModifiers())) {
+                    hidden.add(m.getName());
+                }
+                CHECK.holds(m + " takes at most seven parameters", m.getParameterCount() <= 7);
             }
         }
         List<String> due = new ArrayList<>(List.of(METHODS));

@@ -262,6 +262,7 @@ final class SegmentSentences {
                 check.due("k = 1", m.spreads(0, 1, 1), 0);
                 check.due("k = 2 is worse, each run having two entries", m.spreads(0, 1, 2), 81 * ONE / 2);
                 check.due("k = 3", m.spreads(0, 1, 3), -4);
+                breaksAnywhere();
             });
         takesTwoStations("spreads", (m, u, v) -> m.spreads(u, v, 0));
         s.test("`k`: number of breaks", () -> {
@@ -301,6 +302,24 @@ final class SegmentSentences {
                 refused.due("spreads(0, 1, " + k + ")", -1, m -> m.spreads(0, 1, k), Refused.objects());
             }
         });
+    }
+
+    /** Wherever the levels of a series change: with as many breaks nothing is left. */
+    private void breaksAnywhere() {
+        for (int r = 1; r <= 4; r++) {
+            for (int first = r; first <= 16 - r; first++) {
+                check.due("a break at " + first, zerosAndNines(r, 3, first, 16 - first).spreads(0, 1, 1), 0);
+                for (int second = first + r; second <= 16 - r; second++) {
+                    Integer[] row = new Integer[16];
+                    for (int t = 0; t < 16; t++) {
+                        row[t] = t < first ? 0 : t < second ? 9 : 5;
+                    }
+                    ShiftMender m = Laid.series(r, 3, row);
+                    check.due("breaks at " + first + " and " + second, m.spreads(0, 1, 2), 0);
+                    check.holds("one of them is not enough", m.spreads(0, 1, 1) > 0);
+                }
+            }
+        }
     }
 
     private void breaks() {
