@@ -43,8 +43,8 @@ public final class ShiftMender {
     private final Script script = new Script();
     private final Records records = new Records();
     private final Series series = new Series();
-    private final Segmentation segmentation = new Segmentation(series);
-    private final Culprits culprits = new Culprits(records, series, segmentation);
+    private final Segmentation segmentation = new Segmentation();
+    private final Culprits culprits = new Culprits();
     private final History history = new History();
     private final Ledger ledger = new Ledger();
 
@@ -281,7 +281,7 @@ public final class ShiftMender {
     }
 
     private void segment(int u, int v, int penalty) {
-        series.compare(records, u, v);
+        segmentation.compare(records, u, v);
         segmentation.fit(records.ruleOf(LEAST_RUN), penalty);
     }
 
@@ -297,7 +297,7 @@ public final class ShiftMender {
         if (!areTwoStations(u, v) || k < 0) {
             return BAD;
         }
-        series.compare(records, u, v);
+        segmentation.compare(records, u, v);
         return segmentation.scaledSpreads(records.ruleOf(LEAST_RUN), k);
     }
 
@@ -313,7 +313,7 @@ public final class ShiftMender {
         if (!areTwoStations(u, v) || k < 0) {
             return BAD;
         }
-        series.compare(records, u, v);
+        segmentation.compare(records, u, v);
         // A greater penalty never brings more breaks: halving steps find the last penalty with too many.
         int tooSmall = -1;
         for (int step = 65536; step > 0; step /= 2) {
@@ -332,7 +332,7 @@ public final class ShiftMender {
         if (!records.knows(c, t)) {
             return BAD;
         }
-        culprits.refresh();
+        culprits.refresh(records);
         return culprits.votesCast(c, t);
     }
 
@@ -340,7 +340,7 @@ public final class ShiftMender {
         if (i < -1 || what < 0 || what >= PROPERTIES) {
             return BAD;
         }
-        culprits.refresh();
+        culprits.refresh(records);
         if (i == -1) {
             return culprits.length();
         }
@@ -355,7 +355,7 @@ public final class ShiftMender {
     }
 
     private int mendCulprit(int i) {
-        culprits.refresh();
+        culprits.refresh(records);
         if (i >= culprits.length()) {
             return NONE;
         }
@@ -868,9 +868,9 @@ public final class ShiftMender {
         }
     }
 
-    /** Divides the series into runs. Index i of its rows: for the entries from i to the end. */
+    /** Divides a series into runs. Index i of its rows: for the entries from i to the end. */
     private static final class Segmentation {
-        private final Series series;
+        private final Series series = new Series();
 
         private final long[] costs = new long[MOST_YEARS + 1];
         private final int[] breakCounts = new int[MOST_YEARS + 1];
@@ -881,8 +881,9 @@ public final class ShiftMender {
         // The first indices of the runs of the best segmentation, and behind them the length of the series.
         private final int[] starts = new int[MOST_YEARS + 2];
 
-        Segmentation(Series series) {
-            this.series = series;
+        /** Takes the series of these two stations. */
+        void compare(Records records, int u, int v) {
+            series.compare(records, u, v);
         }
 
         /** Finds the best segmentation of the series. */
@@ -972,9 +973,7 @@ public final class ShiftMender {
 
     /** The votes of all pairs, and the culprits that they tell. */
     private static final class Culprits {
-        private final Records records;
-        private final Series series;
-        private final Segmentation segmentation;
+        private final Segmentation segmentation = new Segmentation();
         private int version = -1;
 
         private int pairs;
@@ -992,17 +991,11 @@ public final class ShiftMender {
         private int length;
         private final int[][] found = new int[PROPERTIES][MOST_CULPRITS];
 
-        Culprits(Records records, Series series, Segmentation segmentation) {
-            this.records = records;
-            this.series = series;
-            this.segmentation = segmentation;
-        }
-
         /**
          * Determines everything anew if the records have changed. Each culprit takes away all votes for its
          * station and year, so that none is found twice.
          */
-        void refresh() {
+        void refresh(Records records) {
             if (version == records.version()) {
                 return;
             }
@@ -1011,12 +1004,12 @@ public final class ShiftMender {
             for (int u = 0; u < records.stations(); u++) {
                 for (int v = u + 1; v < records.stations(); v++) {
                     if (records.arePair(u, v)) {
-                        addPair(u, v);
+                        addPair(records, u, v);
                     }
                 }
             }
-            while (length < MOST_CULPRITS && findCulprit()) {
-                strikeVotes(found[STATION][length], found[YEAR][length]);
+            while (length < MOST_CULPRITS && findCulprit(records)) {
+                strikeVotes(records, found[STATION][length], found[YEAR][length]);
                 length++;
             }
         }
@@ -1047,13 +1040,13 @@ public final class ShiftMender {
             }
         }
 
-        private void addPair(int u, int v) {
+        private void addPair(Records records, int u, int v) {
             if (pairs >= MOST_PAIRS) {
                 return;
             }
             firsts[pairs] = u;
             seconds[pairs] = v;
-            series.compare(records, u, v);
+            segmentation.compare(records, u, v);
             segmentation.fit(records.ruleOf(LEAST_RUN), records.breakPenalty());
             for (int k = 0; k < segmentation.breakCount(); k++) {
                 int t = segmentation.breakYear(k);
@@ -1068,7 +1061,7 @@ public final class ShiftMender {
         }
 
         /** Writes the next culprit behind the others; false if there is none. */
-        private boolean findCulprit() {
+        private boolean findCulprit(Records records) {
             int most = records.ruleOf(VOTES_WANTED) - 1;
             boolean any = false;
             for (int c = 0; c < records.stations(); c++) {
@@ -1104,7 +1097,7 @@ public final class ShiftMender {
             return firsts[p] == c || seconds[p] == c;
         }
 
-        private void strikeVotes(int c, int year) {
+        private void strikeVotes(Records records, int c, int year) {
             int window = records.ruleOf(WINDOW);
             int first = Math.max(0, year - window);
             int last = Math.min(records.years() - 1, year + window);
